@@ -627,8 +627,8 @@ public final class TwinTrees {
             }
             place = at;
             int c = cell[at];
-            if (isLetter(c) || isDigit(c)) {
-                readRun(isLetter(c));
+            if (c >= 'a' && c <= 'z' || c >= '0' && c <= '9') {
+                readRun(c >= 'a');
                 return;
             }
             boolean mark = c >= ';' && c <= '>' || c == '(' || c == ')';
@@ -659,29 +659,26 @@ public final class TwinTrees {
 
         private void readRun(boolean letters) {
             boolean pure = true;
-            int length = 0;
-            while (at < size && (isLetter(cell[at]) || isDigit(cell[at]))) {
+            boolean goesOn = true;
+            int begin = at;
+            while (at < size && goesOn) {
                 int c = cell[at];
-                pure = pure && isLetter(c) == letters;
-                if (length < 7) {
-                    value = letters ? value << 8 | c : value * 10 + (c - '0');
+                boolean letter = c >= 'a' && c <= 'z';
+                goesOn = letter || c >= '0' && c <= '9';
+                if (goesOn) {
+                    pure = pure && letter == letters;
+                    if (at - begin < 7) {
+                        value = letters ? value << 8 | c : value * 10 + (c - '0');
+                    }
+                    at++;
                 }
-                length++;
-                at++;
             }
+            int length = at - begin;
             if (!pure || length > (letters ? 7 : 3)) {
                 token = TOKEN_BAD;
             } else {
                 token = letters ? TOKEN_WORD : TOKEN_NUMBER;
             }
-        }
-
-        private static boolean isLetter(int c) {
-            return c >= 'a' && c <= 'z';
-        }
-
-        private static boolean isDigit(int c) {
-            return c >= '0' && c <= '9';
         }
     }
 
@@ -1169,29 +1166,25 @@ public final class TwinTrees {
         }
 
         private boolean readCond(Model m, int within) {
-            if (!readAll(m, within)) {
-                return false;
-            }
-            for (int n = 0; n <= MOST_ONES && tape.isWord(WORD_OR); n++) {
-                tape.advance();
-                if (!readAll(m, within)) {
-                    return false;
-                }
-                draft.emit(OP_OR, 0);
-            }
-            return true;
-        }
-
-        private boolean readAll(Model m, int within) {
-            if (!readOne(m, within)) {
-                return false;
-            }
-            for (int n = 0; n <= MOST_ONES && tape.isWord(WORD_AND); n++) {
-                tape.advance();
+            boolean more = true;
+            for (int all = 0; all <= MOST_ONES && more; all++) {
                 if (!readOne(m, within)) {
                     return false;
                 }
-                draft.emit(OP_AND, 0);
+                for (int n = 0; n <= MOST_ONES && tape.isWord(WORD_AND); n++) {
+                    tape.advance();
+                    if (!readOne(m, within)) {
+                        return false;
+                    }
+                    draft.emit(OP_AND, 0);
+                }
+                if (all > 0) {
+                    draft.emit(OP_OR, 0);
+                }
+                more = tape.isWord(WORD_OR);
+                if (more) {
+                    tape.advance();
+                }
             }
             return true;
         }
@@ -1628,12 +1621,12 @@ public final class TwinTrees {
         /** The PLACE of an ITEM's CLASS, with the CLASS of its CALLER if the DEPTH is 1. */
         private int placeOf(Model m, int item, int caller) {
             int g = item >= 0 && item < m.items ? m.group[item] : START;
-            return index[g * MOST_ITEMS + (m.callers == 1 ? Math.max(caller, 0) : 0)];
+            return index[g * MOST_ITEMS + (m.callers == 1 && caller >= 0 ? caller : 0)];
         }
 
         private void addStep(int p, int sort, int q) {
             to[(p * SORTS + sort) * 2 + (q >> 6)] |= 1L << (q & 63);
-            from[(q * 5 + Math.min(sort, OPENS)) * 2 + (p >> 6)] |= 1L << (p & 63);
+            from[(q * 5 + (sort < OPENS ? sort : OPENS)) * 2 + (p >> 6)] |= 1L << (p & 63);
         }
 
         private void openFrom(Model m, int p, int item) {
@@ -1809,33 +1802,20 @@ public final class TwinTrees {
         /** Lets those beyond one SIGN more be reached; false if none is new. */
         private boolean raise() {
             int before = tail;
-            for (int row = 0; row < ROWS; row++) {
-                long low = beyond[row * 2];
-                long high = beyond[row * 2 + 1];
-                if ((low | high) != 0) {
-                    enter(reached, row, low, high);
-                    beyond[row * 2] = 0;
-                    beyond[row * 2 + 1] = 0;
+            for (int at = 0; at < ROWS * 2; at++) {
+                if (beyond[at] != 0) {
+                    enter(reached, at, beyond[at]);
+                    beyond[at] = 0;
                 }
             }
             return tail > before;
         }
 
-        /** Puts those of a row that are not yet in the set into it and into the queue. */
-        private void enter(long[] set, int row, long low, long high) {
-            long newLow = low & ~set[row * 2];
-            long newHigh = high & ~set[row * 2 + 1];
-            if ((newLow | newHigh) == 0) {
-                return;
-            }
-            set[row * 2] |= newLow;
-            set[row * 2 + 1] |= newHigh;
-            push(row * MOST_PLACES, newLow);
-            push(row * MOST_PLACES + 64, newHigh);
-        }
-
-        private void push(int base, long bits) {
-            long rest = bits;
+        /** Puts those that are not yet in half a row of the set into it and into the queue. */
+        private void enter(long[] set, int at, long bits) {
+            long rest = bits & ~set[at];
+            set[at] |= rest;
+            int base = (at >> 1) * MOST_PLACES + (at & 1) * 64;
             for (int t = 0; t < 64 && rest != 0 && tail < queue.length; t++) {
                 queue[tail] = base + Long.bitCount((rest & -rest) - 1);
                 tail++;
@@ -1914,7 +1894,9 @@ public final class TwinTrees {
         private void enterAll(int stage, long firsts, int base, long low, long high) {
             long rest = firsts;
             for (int t = 0; t < 64 && rest != 0; t++) {
-                enter(reached, stage * MOST_PLACES + base + Long.bitCount((rest & -rest) - 1), low, high);
+                int at = (stage * MOST_PLACES + base + Long.bitCount((rest & -rest) - 1)) * 2;
+                enter(reached, at, low);
+                enter(reached, at + 1, high);
                 rest &= rest - 1;
             }
         }
@@ -1927,7 +1909,9 @@ public final class TwinTrees {
         }
 
         private void goRight(int stage, int p, int q) {
-            enter(reached, stage * MOST_PLACES + p, places.once[q * 2], places.once[q * 2 + 1]);
+            int at = (stage * MOST_PLACES + p) * 2;
+            enter(reached, at, places.once[q * 2]);
+            enter(reached, at + 1, places.once[q * 2 + 1]);
         }
 
         /** Goes back from the MEETING, through what is REACHED of STAGES 1 to 3. */
@@ -1942,7 +1926,7 @@ public final class TwinTrees {
             head = 0;
             tail = 0;
             if (meets) {
-                enter(suspected, MOST_PLACES + END, 1L << END, 0);
+                enter(suspected, (MOST_PLACES + END) * 2, 1L << END);
             }
             while (head < tail && head < queue.length) {
                 int node = queue[head];
@@ -1982,7 +1966,8 @@ public final class TwinTrees {
         }
 
         private void suspectRow(int row, long low, long high) {
-            enter(suspected, row, low & reached[row * 2], high & reached[row * 2 + 1]);
+            enter(suspected, row * 2, low & reached[row * 2]);
+            enter(suspected, row * 2 + 1, high & reached[row * 2 + 1]);
         }
 
         int countIn(long[] set, int stage) {
@@ -2210,54 +2195,54 @@ public final class TwinTrees {
             int from = (above * MOST_KINDS + k) * MOST_KINDS;
             int at = (i * WIDE + j) * MOST_KINDS;
             for (int last = 0; last < model.kinds; last++) {
-                ways = capped(ways + chain[from + last] * broken[at + last]);
+                ways = Math.min(ways + chain[from + last] * broken[at + last], MOST_TOLD);
             }
             return ways;
         }
 
+        /** Goes through the rows in order; a column stands while the SIGNS ahead of it do. */
         int findWitness(Model m, int n) {
             learn(m);
             filled = false;
-            for (int size = 0; size <= n && size <= MOST_WITNESS; size++) {
-                if (findRow(size)) {
-                    witnessSize = size;
-                    for (int i = 0; i < size; i++) {
-                        witnessRow[i] = row[i];
+            int longest = m.signs > 0 ? Math.min(n, MOST_WITNESS) : 0;
+            for (int size = 0; size <= longest; size++) {
+                for (int i = 0; i < size; i++) {
+                    row[i] = 0;
+                }
+                int stands = 0;
+                for (int tried = 0; tried < 1024 && stands != NONE; tried++) {
+                    for (int e = stands + 1; e <= size; e++) {
+                        column(e);
                     }
-                    return size;
+                    if (waysOf(FIRST_KIND, 0, size) >= 2) {
+                        return keepWitness(size);
+                    }
+                    stands = nextRow(size);
                 }
             }
             return NONE;
         }
 
-        /** The first row of that size that has two TREES; a column stands while the SIGNS ahead of it do. */
-        private boolean findRow(int size) {
-            if (size > 0 && model.signs == 0) {
-                return false;
-            }
+        private int keepWitness(int size) {
+            witnessSize = size;
             for (int i = 0; i < size; i++) {
-                row[i] = 0;
+                witnessRow[i] = row[i];
             }
-            int stands = 0;
-            for (int tried = 0; tried < 1024; tried++) {
-                for (int e = stands + 1; e <= size; e++) {
-                    column(e);
-                }
-                if (waysOf(FIRST_KIND, 0, size) >= 2) {
-                    return true;
-                }
-                int at = size - 1;
-                while (at >= 0 && row[at] >= model.signs - 1) {
-                    row[at] = 0;
-                    at--;
-                }
-                if (at < 0) {
-                    return false;
-                }
-                row[at]++;
-                stands = at;
+            return size;
+        }
+
+        /** Makes the row the next one of its size: how many SIGNS stay; NONE: it was the last one. */
+        private int nextRow(int size) {
+            int at = size - 1;
+            while (at >= 0 && row[at] >= model.signs - 1) {
+                row[at] = 0;
+                at--;
             }
-            return false;
+            if (at < 0) {
+                return NONE;
+            }
+            row[at]++;
+            return at;
         }
     }
 
