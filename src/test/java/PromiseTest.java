@@ -204,6 +204,10 @@ public final class PromiseTest {
     TwinTrees x = with("kind a;kind b;kind c;kind d;kind e;rule a b b b;rule b c c c;rule c d d d;rule d e e e;rule e;rule e a;");
     due("22 many", trees(x), 9999); due("23 first", x.tree(0), 121); due("23 next", x.tree(1), 242); due("24 last", x.treeAt(241), 4); due("24 behind", x.treeAt(242), NONE);
     due("23 four parts", x.tree(7), 484); due("23 more than 600", x.tree(15), NONE); due("24 stays", x.treeAt(483), 4); due("23 one again", x.tree(8192), 242); due("23 beyond", x.tree(9999), NONE);
+    TwinTrees y = with("kind s;kind t;kind u;kind v;kind w;rule s t t t;rule t u u;rule u v v v;rule v w w w;rule w;rule w s;rule w t s;rule w s s;rule w v t;");
+    trees(y); due("23 of 600", y.tree(1561), 600); due("23 of 601", y.tree(2305), NONE);
+    int hash = 0; for (int i = 0; i < 600; i++) hash = hash * 31 + y.treeAt(i);
+    due("24 of 600", hash, 796664131); due("24 behind", y.treeAt(600), NONE);
   }
   private static void tagTexts() {
     TwinTrees x = with("sign plus;kind sum;kind term;rule sum sum plus term;rule term;");
