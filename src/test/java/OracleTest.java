@@ -640,7 +640,7 @@ public final class OracleTest {
     }
   }
   public static void main(String[] args) {
-    int runs = args.length > 0 ? Integer.parseInt(args[0]) : 150; long first = args.length > 1 ? Long.parseLong(args[1]) : 1;
+    int runs = args.length > 0 ? Integer.parseInt(args[0]) : 400; long first = args.length > 1 ? Long.parseLong(args[1]) : 1;
     for (long seed = first; seed < first + runs && wrong < 20; seed++) {
       seedNow = seed; rnd = new Random(seed); log.setLength(0);
       TwinTrees x = new TwinTrees(); Slow o = new Slow();

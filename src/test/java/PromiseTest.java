@@ -120,6 +120,20 @@ public final class PromiseTest {
     TwinTrees z = with("sign a;kind s;kind t;kind u;rule s a;rule s t u;rule t a;rule u u a;");
     due("7 t is made, but with what can't end", z.kind(1, 5), 0); due("7 FOLLOWS all the same", z.kind(1, 3), 0); due("7 FOLLOWS", z.kind(2, 3), 1);
   }
+  /** RULES told from the bottom up, and from the top down: the answers are alike. */
+  private static void kindsInAnyOrder() {
+    String head = "sign a;sign b;kind s;kind t;kind u;kind v;kind w;", up = "rule w;rule w a;rule v w;rule u v w;rule t u;rule s t b;", down = "rule s t b;rule t u;rule u v w;rule v w;rule w a;rule w;";
+    for (String rules : new String[] {up, down}) {
+      TwinTrees x = with(head + rules);
+      for (int k = 0; k < 5; k++) {
+        due("7 EMPTY", x.kind(k, 1), k == 0 ? 0 : 1); due("7 BEGINS", x.kind(k, 2), k == 0 ? 3 : 1);
+        due("7 FOLLOWS", x.kind(k, 3), k == 0 ? 0 : k < 3 ? 2 : 3); due("7 ENDLESS", x.kind(k, 4), 0); due("7 USED", x.kind(k, 5), 1);
+      }
+      add(x, 4, 9, 12); for (int k = 0; k < 5; k++) due("7 ENDLESS all round", x.kind(k, 4), k == 0 ? 0 : 1);
+      x.undo(); for (int r = 0; r < 6; r++) if (x.rule(r, 0) == 3) { x.drop(r); break; }
+      for (int k = 0; k < 5; k++) { due("7 none can end but w", x.kind(k, 5), 0); due("7 EMPTY", x.kind(k, 1), k == 4 ? 1 : 0); due("7 FOLLOWS all the same", x.kind(k, 3), k == 0 ? 0 : k == 3 ? 3 : 2); }
+    }
+  }
   private static void places() {
     TwinTrees x = with(SUMS);
     row("9 START", w -> x.place(0, w), 0, NONE, 2, 0, NONE); row("9 END", w -> x.place(1, w), 1, NONE, 0, 2); row("9 at .p", w -> x.place(3, w), 3, NONE, 1, 2);
@@ -172,6 +186,11 @@ public final class PromiseTest {
     due("20 proven", z.proven(), 0); due("21 merged", z.shadow(), 1); z.undo(); due("20 alone", z.proven(), 1); z.merge(3, 5); row("16 CLOSING beside a SIGN", z::twins, 6, 9, 1, 1); due("17 left", z.twin(1, 3, 2), 1); due("17 right", z.twin(3, 1, 3), 1); due("18 of 2", z.suspects(2), 0);
     TwinTrees e = with("sign a;kind s;kind t;rule s t t;rule t a;rule t;"); due("16 no STAGE 2 yet", e.twins(2), 0); e.merge(5, 7);
     due("16 STAGE 2", e.twins(2) > 0 ? 1 : 0, 1); due("16 left and right", e.twins(2) - e.twins(3), 0); due("18 left and right", e.suspects(2) - e.suspects(3), 0); due("18 of STAGE 2", e.suspects(2) > 0 ? 1 : 0, 1);
+    int k = 0;
+    for (int p = 0; p < e.count(5); p++) for (int q = 0; q < e.count(5); q++) for (int stage = 1; stage <= 3; stage++) if (e.twin(p, q, stage) == 2) {
+      due("19 first PLACE", e.suspectAt(k, 0), p); due("19 second PLACE", e.suspectAt(k, 1), q); due("19 STAGE", e.suspectAt(k, 2), stage); k++;
+    }
+    due("19 all of them", e.suspects(1) + e.suspects(2) + e.suspects(3), k); due("19 behind", e.suspectAt(k, 0), NONE);
     TwinTrees sums = with(SUMS); due("21 DEPTH 0", sums.shadow(), 1); sums.depth(1); due("21 DEPTH 1", sums.shadow(), 3); due("20 DEPTH 1", sums.proven(), 0);
   }
   private static void treesOfRows() {
@@ -283,7 +302,7 @@ public final class PromiseTest {
     due("36 again", x.restore(1), true); x.merge(5, 6); due("36 apart", x.restore(1), true); due("36 apart", x.count(4), 7); x.image(0); load(x, ""); x.grammar(); x.image(1); x.restore(0); due("35 places apart", x.count(2), 2); x.restore(1); due("35 places apart", x.count(2), 0);
   }
   public static void main(String[] args) {
-    newObject(); tape(); grammars(); faults(); rulesAndItems(); kinds(); places(); deeds(); twins(); treesOfRows(); largeTrees(); tagTexts(); draws(); books(); sentences(); images();
+    newObject(); tape(); grammars(); faults(); rulesAndItems(); kinds(); kindsInAnyOrder(); places(); deeds(); twins(); treesOfRows(); largeTrees(); tagTexts(); draws(); books(); sentences(); images();
     due("NONE", TwinTrees.NONE, -1);
     System.out.println(wrong == 0 ? asked + " answers are as due" : wrong + " answers are not as due");
     if (wrong != 0) System.exit(1);
