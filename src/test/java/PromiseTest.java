@@ -301,8 +301,24 @@ public final class PromiseTest {
     due("36 fault stays", x.fault(), 1); due("36 told stays", x.told(0), 29); due("36 TAG stays", x.byteAt(0), 's'); due("36 TREE stays", x.treeAt(0), 0); due("36 row stays", x.tree(0), 3); due("36 WITNESS stays", x.witnessAt(0), 0);
     due("36 again", x.restore(1), true); x.merge(5, 6); due("36 apart", x.restore(1), true); due("36 apart", x.count(4), 7); x.image(0); load(x, ""); x.grammar(); x.image(1); x.restore(0); due("35 places apart", x.count(2), 2); x.restore(1); due("35 places apart", x.count(2), 0);
   }
+  /** Numbers far out are answered by NONE (or false), whatever is so. */
+  private static void farOut() {
+    int[] far = {Integer.MIN_VALUE, Integer.MIN_VALUE + 1, -1000, -9, 1000, 9999, 1 << 30, Integer.MAX_VALUE - 1, Integer.MAX_VALUE};
+    for (int n = 0; n < 3; n++) {
+      TwinTrees x = n == 0 ? new TwinTrees() : with(SUMS);
+      if (n == 2) { x.depth(1); trees(x, 0, 1, 0); x.tree(0); x.witness(5); x.tag(2); said(x, "first", 2, 6); }
+      for (int f : far) for (int w = 0; w < 3; w++) {
+        int[] got = {x.rule(f, w), x.rule(w, f), x.kind(f, w), x.kind(w, f), x.item(f, w), x.item(w, f), x.place(f, w), x.place(w, f), x.step(f, w, 0), x.step(w, f, 0), x.step(w, 0, f),
+          x.merge(f, w + 2), x.merge(w + 2, f), x.depth(f), x.drop(f), x.twins(f), x.twin(f, w, 1), x.twin(w, f, 1), x.twin(0, w, f), x.suspects(f), x.suspectAt(f, w), x.suspectAt(w, f), x.tree(f), x.treeAt(f),
+          x.witness(f), x.witnessAt(f), x.tag(f), x.byteAt(f), x.drawn(f, w), x.odds(f, w), x.told(f), x.said(f), x.count(f), x.add(f)};
+        for (int i = 0; i < got.length; i++) due("far out " + f + ", the " + i + "th", got[i], NONE);
+        due("far out", x.end(f) || x.image(f) || x.restore(f), false); due("far out", x.book(f), -1000);
+        if (n > 0) { x.odds(6, f); due("far out", x.drawn(40, f) >= 0, true); }
+      }
+    }
+  }
   public static void main(String[] args) {
-    newObject(); tape(); grammars(); faults(); rulesAndItems(); kinds(); kindsInAnyOrder(); places(); deeds(); twins(); treesOfRows(); largeTrees(); tagTexts(); draws(); books(); sentences(); images();
+    newObject(); tape(); grammars(); faults(); rulesAndItems(); kinds(); kindsInAnyOrder(); places(); deeds(); twins(); treesOfRows(); largeTrees(); tagTexts(); draws(); books(); sentences(); images(); farOut();
     due("NONE", TwinTrees.NONE, -1);
     System.out.println(wrong == 0 ? asked + " answers are as due" : wrong + " answers are not as due");
     if (wrong != 0) System.exit(1);
