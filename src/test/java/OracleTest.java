@@ -645,7 +645,8 @@ public final class OracleTest {
       seedNow = seed; rnd = new Random(seed); log.setLength(0);
       TwinTrees x = new TwinTrees(); Slow o = new Slow();
       if (r(10) > 0) { load(x, o, grammarText(o)); due("grammar()", x.grammar(), o.grammar()); }
-      for (int i = 0; i < 120 && wrong < 20; i++) call(x, o);
+      long before = calls; // an object answers 512 calls as told
+      for (int i = 0; i < 120 && calls - before < 440 && wrong < 20; i++) call(x, o);
     }
     if (args.length > 2) seen.forEach((k, v) -> System.out.println(k + ": " + v));
     System.out.println(wrong == 0 ? calls + " answers are alike" : wrong + " answers differ");
