@@ -3,6 +3,7 @@ import java.lang.reflect.Method;
 import java.util.ArrayDeque;
 import java.util.Arrays;
 import java.util.Comparator;
+import java.util.Random;
 import java.util.function.Consumer;
 
 /**
@@ -545,6 +546,9 @@ public final class EdgeTest {
     sayable(x, "first or last and rule = 0", 2, 5, 6);
     sayable(x, "(first or last) and rule = 0", 2, 5);
     sayable(x, "not first or last", 3, 4, 5, 7);
+    sayable(x, "rule = 0 and (first)", 2);
+    sayable(x, "rule = 0 and (first or last)", 2, 5);
+    sayable(x, "rule = 1 or not (first or dot = 1) and alone", 4, 5, 6, 7);
     sayable(x, "not (first or last)", 3, 4);
     sayable(x, "not first and not last", 3, 4);
     sayable(x, "not not first", 2, 6);
@@ -751,6 +755,11 @@ public final class EdgeTest {
     steps(x, 6, 0, 7);
     steps(x, 7, 16, 2);
     steps(x, 8, 34, 4);
+    // KIND 1 is NEXT nowhere: 2 .a, 3 a., 4 .s, 5 s.
+    TwinTrees y = with("sign a;kind s;kind t;rule s a;rule t s;");
+    steps(y, 3, 32, 1, 32, 5);
+    steps(y, 4, 16, 2);
+    steps(y, 5);
   }
   private static void termStepsOfDepth1() {
     test("STEPS, by DEPTH 1: behind the CALLER alone, of the CLASS of each CALLER from which that ITEM itself can be");
@@ -956,8 +965,13 @@ public final class EdgeTest {
       if (f.fewest[t] != NONE) reached[t % 4]++;
       if (!f.suspect[t]) continue;
       suspects[t % 4]++;
-      if (all % 40 == 0) due("the " + all + "th SUSPECT", f.at(x.suspectAt(all, 0), x.suspectAt(all, 1), x.suspectAt(all, 2)), t);
+      if (all % 50 == 0) due("the " + all + "th SUSPECT", f.at(x.suspectAt(all, 0), x.suspectAt(all, 1), x.suspectAt(all, 2)), t);
       all++;
+    }
+    for (int p = 0; p < f.n; p++) {
+      int come = 0;
+      for (int[] told : f.steps) { boolean comes = false; for (int i = 1; i < told.length; i += 2) comes |= told[i] == p; if (comes) come++; }
+      due("how many come to PLACE " + p, x.place(p, 3), come);
     }
     for (int stage = 0; stage < 4; stage++) { due("REACHED of " + stage, x.twins(stage), reached[stage]); due("SUSPECTS of " + stage, x.suspects(stage), stage == 0 ? NONE : suspects[stage]); }
     due("none behind", x.suspectAt(all, 0), NONE);
@@ -983,6 +997,34 @@ public final class EdgeTest {
     followedAlike(FULL, "merge 2 41;", 41);
     followedAlike(PAIRS, "depth 1;", 12);
   }
+  /** A GRAMMAR by chance: some SYMBOLS more are SIGNS than KINDS. */
+  private static String anyGrammar(Random chance) {
+    String signs = "abcd".substring(0, 1 + chance.nextInt(4)), kinds = "stuvw".substring(0, 1 + chance.nextInt(4));
+    StringBuilder b = new StringBuilder();
+    for (char c : signs.toCharArray()) b.append("sign ").append(c).append(';');
+    for (char c : kinds.toCharArray()) b.append("kind ").append(c).append(';');
+    for (int rules = kinds.length() + chance.nextInt(11 - kinds.length()), r = 0; r < rules; r++) {
+      b.append("rule ").append(kinds.charAt(r < kinds.length() ? r : chance.nextInt(kinds.length())));
+      for (int t = chance.nextInt(4); t > 0; t--) { String from = chance.nextInt(5) < 2 ? kinds : signs; b.append(' ').append(from.charAt(chance.nextInt(from.length()))); }
+      b.append(';');
+    }
+    return b.toString();
+  }
+  private static void termTwinsOfManyPlaces() {
+    test("PLACES, TWINS, REACHED, SUSPECTS, SHADOW of more than 64 PLACES");
+    Random chance = new Random(11);
+    for (int done = 0; done < 40; ) {
+      String grammar = anyGrammar(chance);
+      TwinTrees x = with(grammar);
+      StringBuilder acts = new StringBuilder("depth 1;");
+      x.depth(1);
+      int items = x.count(3) - 2;
+      for (int i = chance.nextInt(4); i > 0 && items > 0; i--) { int p = 2 + chance.nextInt(items), q = 2 + chance.nextInt(items); if (x.merge(p, q) == 0) acts.append("merge ").append(p).append(' ').append(q).append(';'); }
+      if (x.count(5) <= 64) continue;
+      followedAlike(grammar, acts.toString(), x.count(5));
+      done++;
+    }
+  }
 
   // ---------- TREES ----------
   private static void tree(TwinTrees x, int k, int... rules) {
@@ -1004,6 +1046,13 @@ public final class EdgeTest {
     due("parts of no SIGN beside one another", trees(z), 2);
     tree(z, 0, 0, 1, 1);
     tree(z, 1, 1);
+    TwinTrees v = with("sign a;kind s;rule s;rule s s s;rule s a;");
+    due("parts of none beside one SIGN", trees(v, 0), 5);
+    tree(v, 0, 1, 0, 2);
+    tree(v, 1, 1, 1, 0, 0, 2);
+    tree(v, 2, 1, 2, 0);
+    tree(v, 3, 1, 2, 1, 0, 0);
+    tree(v, 4, 2);
     TwinTrees w = with("sign a;kind s;rule s s a;rule s;");
     due("another part each", trees(w, 0, 0, 0, 0), 1);
     tree(w, 0, 0, 0, 0, 0, 1);
@@ -1142,6 +1191,20 @@ public final class EdgeTest {
     due("KIND 0 can't", x.kind(0, 5), 0);
     due("not come to", with("sign a;kind s;kind t;rule s;rule t a;").kind(1, 5), 0);
   }
+  private static void termKindsInAnyOrder() {
+    test("Of KINDS: EMPTY, BEGINS, FOLLOWS, ENDLESS, USED through five of them, in any order of the RULES");
+    String up = "rule w a;rule v w;rule u v;rule t u;rule s t b;", down = "rule s t b;rule t u;rule u v;rule v w;rule w a;";
+    for (String rules : new String[] {up, down}) {
+      TwinTrees x = with("sign a;sign b;kind s;kind t;kind u;kind v;kind w;" + rules);
+      for (int k = 0; k < 5; k++) for (int w = 1; w < 6; w++) due("KIND " + k + ", " + w, x.kind(k, w), w == 2 || w == 5 ? 1 : w == 3 && k > 0 ? 2 : 0);
+      add(x, 4, 9);
+      for (int k = 0; k < 5; k++) due("ENDLESS " + k, x.kind(k, 4), k == 0 ? 0 : 1);
+      add(x, 4);
+      for (int k = 0; k < 5; k++) { due("EMPTY " + k, x.kind(k, 1), k == 0 ? 0 : 1); due("BEGINS " + k, x.kind(k, 2), k == 0 ? 3 : 1); }
+      for (int r = 0; r < 5; r++) if (x.rule(r, 0) == 0) due("RULE of KIND 0", x.drop(r), 0);
+      for (int k = 0; k < 5; k++) { due("not made " + k, x.kind(k, 3), 0); due("not USED " + k, x.kind(k, 5), 0); }
+    }
+  }
   private static void tag(TwinTrees x, int i, String want) {
     due("TAG of " + i, x.tag(i), want.length());
     for (int t = 0; t < want.length(); t++) due("TAG of " + i + ", byte " + t, x.byteAt(t), want.charAt(t));
@@ -1224,6 +1287,7 @@ public final class EdgeTest {
     for (int stage = 0; stage <= 3; stage++) b.append(x.twins(stage)).append(' ').append(x.suspects(stage)).append(' ').append(x.suspectAt(2, stage)).append(' ');
     b.append(x.proven()).append(' ').append(x.shadow()).append(' ').append(x.count(5)).append(' ');
     for (int k = 0; k < 3; k++) { int rules = x.tree(k); b.append(rules).append(' ').append(x.treeAt(rules < 0 ? NONE : 1)).append(' '); }
+    b.append(trees(x, 0, 0)).append(' ').append(trees(x, 0)).append(' ');
     int signs = x.witness(4);
     return b.append(signs).append(' ').append(x.witnessAt(signs < 0 ? NONE : 0)).toString();
   }
@@ -1242,11 +1306,35 @@ public final class EdgeTest {
     }
     same(what, worked(x[0]), worked(x[1]));
   }
+  /** Behind a call that is no act all is as it was. */
+  private static void workedAsEver(String what, Consumer<TwinTrees> call) {
+    TwinTrees x = with("sign a;sign b;kind s;kind t;kind u;rule s t u;rule t a;rule t;rule u b s;rule u;");
+    x.depth(1);
+    x.merge(3, 6);
+    trees(x, 0);
+    String before = worked(x);
+    call.accept(x);
+    same(what, worked(x), before);
+  }
+  private static void termWorkedAsEver() {
+    test("What is so stays behind a call that is no act");
+    for (int seed = 0; seed < 9; seed++) { int n = seed; workedAsEver("odds()", x -> x.odds(1, n * 7919)); workedAsEver("odds()", x -> x.odds(6, n * 7919)); }
+    workedAsEver("grammar() with a FAULT", x -> { load(x, "kind s;!"); x.grammar(); });
+    workedAsEver("book() judged", x -> book(x, "drop 0;depth 0;", 0));
+    workedAsEver("book() with a FAULT", x -> book(x, "drop 0;depth 2;", 1));
+    workedAsEver("book() WRONG at first", x -> book(x, "depth 1;drop 0;", 1));
+    workedAsEver("sentence()", x -> sentence(x, "first"));
+    workedAsEver("witness()", x -> x.witness(5));
+    workedAsEver("image()", x -> x.image(1));
+    workedAsEver("restore() of nothing", x -> x.restore(1));
+    workedAsEver("image() and restore()", x -> { x.image(0); x.merge(2, 4); x.restore(0); });
+    workedAsEver("tag()", x -> x.tag(3));
+    workedAsEver("acts that are undone", x -> { x.drop(0); x.undo(); x.merge(2, 4); x.undo(); add(x, 2, 9, 9); x.undo(); x.drawn(5, 7); x.undo(); });
+  }
   private static void termWorkedAnew() {
     test("What is so now tells: PLACES, TWINS, KINDS, TREES, WITNESS behind each act");
     workedAnew("grammar()", x -> anew(x, PAIRS));
     workedAnew("grammar() of none", x -> anew(x, ""));
-    workedAnew("grammar() with a FAULT", x -> { load(x, "!"); x.grammar(); });
     workedAnew("merge()", x -> x.merge(2, 5));
     workedAnew("depth()", x -> x.depth(0));
     for (int r = 0; r < 5; r++) { int rule = r; workedAnew("drop(" + r + ")", x -> x.drop(rule)); }
@@ -1254,12 +1342,9 @@ public final class EdgeTest {
     workedAnew("add()", x -> add(x, 2, 8, 8));
     workedAnew("undo()", x -> x.undo());
     workedAnew("undo() twice", x -> { x.undo(); x.undo(); });
-    for (int seed = 0; seed < 9; seed++) { int n = seed; workedAnew("drawn()", x -> x.drawn(2, n * 7919)); workedAnew("odds()", x -> x.odds(3, n * 7919)); }
-    workedAnew("book() judged", x -> book(x, "drop 0;depth 0;", 0));
+    for (int seed = 0; seed < 9; seed++) { int n = seed; workedAnew("drawn()", x -> x.drawn(2, n * 7919)); }
     workedAnew("book() lived", x -> book(x, "drop 0;depth 0;", 1));
     workedAnew("restore()", x -> x.restore(0));
-    workedAnew("witness()", x -> x.witness(5));
-    workedAnew("trees()", x -> trees(x, 0, 1));
   }
 
   // ---------- a new GRAMMAR ----------
@@ -1360,6 +1445,12 @@ public final class EdgeTest {
     due("fewer", x.end(7), true);
     due("the others are gone", x.end(8), false);
     due("the first alone", x.grammar(), 1);
+    load(x, "not firsts and last or");
+    due("fewer", x.end(9), true);
+    due("those that are gone don't go on", x.sentence(), 2);
+    load(x, "dot < 1234");
+    due("fewer", x.end(9), true);
+    due("those that are gone don't go on", x.sentence(), 1);
     load(x, blanks(940));
     due("941", x.end(941), false);
     due("940", x.end(940), true);
@@ -1423,6 +1514,8 @@ public final class EdgeTest {
     due("far", x.kind(FAR, 0), NONE);
     due("far below", x.kind(FAR_BELOW, 0), NONE);
     due("without KINDS", new TwinTrees().kind(0, 0), NONE);
+    kind(with(SUMS), 0, 3, 0, 1, 2, 0, 1);
+    kind(with(PAIRS), 0, 3, 1, 1, 2, 0, 1);
   }
   private static void promise08Item() {
     test("Promise 8, item: RULE and dot NONE of START, END; NONE, too: no such ones");
@@ -1690,6 +1783,11 @@ public final class EdgeTest {
     for (int stage : new int[] {0, -1, 4, FAR, FAR_BELOW}) due("STAGE " + stage, x.suspects(stage), NONE);
     TwinTrees y = with(PAIRS);
     due("PROVEN", y.suspects(1) + y.suspects(2) + y.suspects(3), 0);
+    TwinTrees e = with("sign a;kind s;kind t;rule s t t;rule t a;rule t;");
+    e.merge(5, 7);
+    due("of 2, MERGED", e.suspects(2) > 0, true);
+    e.undo();
+    due("of 2, alone", e.suspects(2) + e.suspects(3), 0);
     TwinTrees z = depth1(with(EIGHTY));
     due("80", z.suspects(1) > 0, true);
     add(z, 1);
@@ -1803,6 +1901,11 @@ public final class EdgeTest {
     due("another one alike", add(x, 0, 0), 0);
     tree(x, 3, 0, 2, 2);
     due("none such", x.tree(4), NONE);
+    TwinTrees y = with("sign a;kind s;rule s s;rule s a;");
+    due("s, a or a", trees(y, 0), 2);
+    y.drop(0);
+    tree(y, 0, 0);
+    due("a alone now", y.tree(1), NONE);
     anew(x, "kind s;rule s;");
     due("no such SIGNS now", x.tree(0), NONE);
     anew(x, "sign a;sign b;");
@@ -1894,6 +1997,10 @@ public final class EdgeTest {
     trees(x, 1, 1, 1, 1, 1, 1, 1, 1);
     due("whatever row was asked for", x.witness(5), 5);
     due("whatever row was asked for", x.witnessAt(0) * 10 + x.witnessAt(1), 1);
+    TwinTrees w = with("sign a;sign b;kind s;rule s a;rule s a;rule s b;rule s b;");
+    due("a row of the other SIGN", trees(w, 1), 2);
+    due("the least", w.witness(5), 1);
+    due("the least", w.witnessAt(0), 0);
     due("there is none", with(PAIRS).witness(5), NONE);
     for (int n = 0; n <= 5; n++) { due("no KINDS", new TwinTrees().witness(n), NONE); due("no KINDS", with("sign a;").witness(n), NONE); }
     TwinTrees y = with("kind s;rule s;rule s;");

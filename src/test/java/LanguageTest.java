@@ -66,10 +66,20 @@ public final class LanguageTest {
     }
   }
 
+  /** All calls live in one room: what is made is made with the object, in fields and in the constructor. */
+  private static void made(List<String> lines) {
+    boolean inside = false;
+    for (String l : lines) {
+      if (l.startsWith("    public TwinTrees()")) inside = true;
+      if (l.equals("    }")) inside = false;
+      if (l.matches(".*\\bnew\\b.*") && !inside && !l.matches(" {4,8}(private )?final .* = new .*;") && !l.matches("\\s*(//|\\*|/\\*).*")) say("made behind the constructor: " + l.trim());
+    }
+  }
+
   public static void main(String[] args) throws IOException {
     List<String> lines = Files.readAllLines(Path.of("src/main/java/TwinTrees.java"));
     String code = String.join("\n", lines).replaceAll("(?s)/\\*.*?\\*/", "").replaceAll("//[^\n]*", "");
-    face(); words(code); lengths(lines);
+    face(); words(code); lengths(lines); made(lines);
     System.out.println(wrong == 0 ? "the language is kept" : wrong + " rules are not kept");
     if (wrong != 0) System.exit(1);
   }
