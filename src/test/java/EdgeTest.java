@@ -1058,6 +1058,20 @@ public final class EdgeTest {
     tree(w, 0, 0, 0, 0, 0, 1);
     due("all of KINDS that make themselves", trees(with("kind s;rule s s;")), 0);
   }
+  private static void termTwoOfEachKind() {
+    test("TREES: two of each of five KINDS have one and the same part, and no more");
+    String rules = "kind s;kind t;kind u;kind v;kind w;rule s t;rule t u;rule u v;rule v w;rule w t;rule w s;rule s";
+    TwinTrees x = with("sign a;" + rules + " a;");
+    due("of one SIGN", trees(x, 0), 3);
+    tree(x, 0, 0, 1, 2, 3, 4, 1, 2, 3, 5, 6);
+    tree(x, 1, 0, 1, 2, 3, 5, 6);
+    tree(x, 2, 6);
+    TwinTrees y = with(rules + ";");
+    due("of no SIGN", trees(y), 3);
+    tree(y, 0, 0, 1, 2, 3, 4, 1, 2, 3, 5, 6);
+    tree(y, 1, 0, 1, 2, 3, 5, 6);
+    tree(y, 2, 6);
+  }
   private static void termTreesInOrder() {
     test("TREES in order: by RULE, the end of the first part, the second, .. (the least first), then by the TREE of its first KIND, ..");
     TwinTrees x = with("sign a;kind s;kind t;rule s t t t;rule t a;rule t;rule s t t;");
@@ -1150,6 +1164,9 @@ public final class EdgeTest {
     kind(x, 2, 8, 0, 2, 4, 0, 0);
     due("not behind a KIND that can't be empty", with("sign a;kind s;kind t;rule s t a;rule t t;").kind(0, 2), 0);
     due("the last SIGN", with("sign a;sign b;sign c;sign d;kind s;rule s d a;").kind(0, 2), 8);
+    TwinTrees y = with("sign a;sign b;kind s;kind t;rule s a;rule t s;rule s b;");
+    due("a RULE behind tells more of s", y.kind(0, 2), 3);
+    due("and of t, which begins with s", y.kind(1, 2), 3);
   }
   private static void termFollows() {
     test("FOLLOWS: SIGNS that can be behind it in what RULES make from KIND 0 (none, if it is not made)");
@@ -2292,6 +2309,13 @@ public final class EdgeTest {
     sentence(x, "first");
     due("a SENTENCE less", x.restore(1), true);
     due("a SENTENCE less", x.said(NONE), NONE);
+    y.image(0);
+    String both = all(y);
+    for (int k : new int[] {-32, -31, -2, -1, 2, 31, 32, 33, 64, FAR, FAR_BELOW, FAR_BELOW + 1}) {
+      due("both are kept, restore(" + k + ")", y.restore(k), false);
+      due("both are kept, image(" + k + ")", y.image(k), false);
+    }
+    stays(y, both);
   }
   private static void promise37Count() {
     test("Promise 37, count: 5 NONE: TOO MANY; NONE for another what");
