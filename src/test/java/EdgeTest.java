@@ -1133,6 +1133,7 @@ public final class EdgeTest {
     due("fewer first", y.witness(2), 1);
     due("SIGN 0", y.witnessAt(0), 2);
     due("no SIGN at all", with("kind s;rule s;rule s;").witness(5), 0);
+    due("one TREE by a row of a, one by a row of b", with("sign a;sign b;kind s;kind t;rule s t a;rule s a a;rule t b;").witness(5), NONE);
   }
 
   // ---------- KINDS ----------
@@ -2022,6 +2023,7 @@ public final class EdgeTest {
     for (int n = 0; n <= 5; n++) { due("no KINDS", new TwinTrees().witness(n), NONE); due("no KINDS", with("sign a;").witness(n), NONE); }
     TwinTrees y = with("kind s;rule s;rule s;");
     for (int n = 0; n <= 5; n++) due("no SIGN is needed", y.witness(n), 0);
+    for (int n : new int[] {-1, 6, FAR, FAR_BELOW}) due("not as told, though no SIGN is needed", y.witness(n), NONE);
     for (int n = 0; n <= 5; n++) due("no SIGNS, no two TREES", with("kind s;rule s;").witness(n), NONE);
     TwinTrees z = with("sign a;kind s;rule s a;rule s a;");
     due("of 0", z.witness(0), NONE);
